@@ -139,7 +139,7 @@ public final class FaultDesk {
         if (isNoSort(sort) || isNoOhms(f)) {
             return OUTSIDE;
         }
-        if (!flow.isOfFault(grid, sort, bus, f)) {
+        if (!flow.takeFault(grid, sort, bus, f)) {
             return NOT;
         }
         notes.add(phases);
@@ -220,7 +220,7 @@ public final class FaultDesk {
         if (isNoSort(sort) || isNoOhms(f) || isOutside(what, 0, 2) || isOutside(part, 0, 1)) {
             return OUTSIDE;
         }
-        return flow.isOfFault(grid, sort, bus, f) ? flow.tell(phase, what, part) : NOT;
+        return flow.takeFault(grid, sort, bus, f) ? flow.tell(phase, what, part) : NOT;
     }
 
     public long voltage(int sort, int bus, int f, int at, int phase, int what, int part) {
@@ -230,7 +230,7 @@ public final class FaultDesk {
         if (isNoSort(sort) || isNoOhms(f) || isOutside(what, 0, 2) || isOutside(part, 0, 1)) {
             return OUTSIDE;
         }
-        if (!flow.isOfFault(grid, sort, bus, f)) {
+        if (!flow.takeFault(grid, sort, bus, f)) {
             return NOT;
         }
         fall.becomeVoltage(grid, flow, grid.meetingOf(at, bus));
@@ -244,7 +244,7 @@ public final class FaultDesk {
         if (isNoSort(sort) || isNoOhms(f) || isOutside(p, 0, MOST_SHARE)) {
             return OUTSIDE;
         }
-        if (!flow.isOfFault(grid, sort, bus, f)) {
+        if (!flow.takeFault(grid, sort, bus, f)) {
             return NOT;
         }
         int bits = 0;
@@ -264,7 +264,7 @@ public final class FaultDesk {
         if (isNoSort(sort) || isNoOhms(f)) {
             return OUTSIDE;
         }
-        if (!flow.isOfFault(grid, sort, bus, f)) {
+        if (!flow.takeFault(grid, sort, bus, f)) {
             return NOT;
         }
         int bits = 0;
@@ -284,7 +284,7 @@ public final class FaultDesk {
         long above = 0;
         long below = 1;
         for (int bus = 0; bus < grid.buses; bus++) {
-            if (flow.isOfFault(grid, sort, bus, f)) {
+            if (flow.takeFault(grid, sort, bus, f)) {
                 long norm = flow.greatestNorm();
                 long square = flow.below * flow.below;
                 if (worst == NONE || norm * below > above * square) {
@@ -306,7 +306,7 @@ public final class FaultDesk {
         for (int sort = 0; sort < SORTS; sort++) {
             for (int bus = 0; bus < grid.buses; bus++) {
                 for (int f = 0; f <= MOST_OHMS; f++) {
-                    if (flow.isOfFault(grid, sort, bus, f) && flow.isAs(phases)) {
+                    if (flow.takeFault(grid, sort, bus, f) && flow.isAs(phases)) {
                         many++;
                         first = first == NONE ? 10000 * sort + 100 * bus + f : first;
                     }
@@ -859,46 +859,28 @@ public final class FaultDesk {
         private boolean readClause(Net net) {
             step();
             if (isWord(NET)) {
-                return readNet(net);
-            }
-            if (isWord(SOURCE)) {
-                return readSource(net);
-            }
-            if (isWord(BUS)) {
-                return !net.isFull() && readBus(net);
-            }
-            return isWord(RELAY) && readRelay(net);
-        }
-
-        private boolean readNet(Net net) {
-            if (!readNumber(0, 1, MOST_VOLTS)) {
+                if (!readNumber(0, 1, MOST_VOLTS)) {
+                    return false;
+                }
+                net.restart(numbers[0]);
+            } else if (isWord(SOURCE)) {
+                if (!readOhms()) {
+                    return false;
+                }
+                net.resist(0, numbers[1], numbers[2], numbers[3]);
+            } else if (isWord(BUS)) {
+                if (net.isFull() || !readNumber(0, 0, net.buses - 1) || !readOhms()) {
+                    return false;
+                }
+                net.hang(numbers[0], numbers[1], numbers[2], numbers[3]);
+            } else if (isWord(RELAY)) {
+                if (!readNumber(0, 1, net.buses - 1) || !readNumber(1, 0, MOST_LIMIT)) {
+                    return false;
+                }
+                net.limits[numbers[0]] = numbers[1];
+            } else {
                 return false;
             }
-            net.restart(numbers[0]);
-            return true;
-        }
-
-        private boolean readSource(Net net) {
-            if (!readOhms()) {
-                return false;
-            }
-            net.resist(0, numbers[1], numbers[2], numbers[3]);
-            return true;
-        }
-
-        private boolean readBus(Net net) {
-            if (!readNumber(0, 0, net.buses - 1) || !readOhms()) {
-                return false;
-            }
-            net.hang(numbers[0], numbers[1], numbers[2], numbers[3]);
-            return true;
-        }
-
-        private boolean readRelay(Net net) {
-            if (!readNumber(0, 1, net.buses - 1) || !readNumber(1, 0, MOST_LIMIT)) {
-                return false;
-            }
-            net.limits[numbers[0]] = numbers[1];
             return true;
         }
 
@@ -976,7 +958,7 @@ public final class FaultDesk {
         }
 
         /** Takes the current of a fault; false where there is none such. */
-        boolean isOfFault(Net net, int sort, int bus, int f) {
+        boolean takeFault(Net net, int sort, int bus, int f) {
             long v = net.volts;
             long z0 = net.ohmsUpTo(bus, 0);
             long z1 = net.ohmsUpTo(bus, 1);

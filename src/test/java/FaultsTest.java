@@ -174,6 +174,8 @@ public final class FaultsTest {
             trips(1, 2, 0) = 4
             done "relay 1 8"
             trips(0, 1, 4) = 2
+            done "relay 1 1"
+            trips(0, 1, 4) = 2
             done "relay 1 0"
             trips(0, 1, 4) = 0
             trips(3, 1, 2) = 0

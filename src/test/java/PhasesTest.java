@@ -15,6 +15,7 @@ public final class PhasesTest {
         most();
         overAtTheBounds();
         overOnTheWay();
+        overInOnePart();
         CHECK.end();
     }
 
@@ -397,6 +398,30 @@ public final class PhasesTest {
             fold(0, 1) = 1/9998
             fold(4, 0, 0) = OUTSIDE
             most(3) = OUTSIDE
+            """);
+    }
+
+    /** One of the three that leaves the bounds is enough, whichever it is. */
+    private static void overInOnePart() {
+        Script.run(CHECK, """
+            phase(0, -4436, 9393, 0, 1) = 1
+            phase(1, 1691, 103, 0, 1) = 1
+            phase(2, 3750, 41, 0, 1) = 1
+            split() = OVER
+            join() = OVER
+            phase(0, -9407, 6000, 0, 1) = 1
+            phase(1, 0, 1, 2573, 33) = 1
+            phase(2, 2398, 265, -2153, 1616) = 1
+            split() = OVER
+            join() = OVER
+            phase(0, 136, 95, 2132, 119) = 1
+            phase(1, 1325, 359, 4739, 43) = 1
+            phase(2, 0, 1, 5639, 709) = 1
+            split() = OVER
+            join() = OVER
+            count(3) = 8
+            told(0, 0) = 136/95
+            told(2, 1) = 5639/709
             """);
     }
 }

@@ -78,6 +78,8 @@ public final class ToldTest {
             fault "ne 5" = 0
             fault "nets 5" = 0
             fault "nett5" = 0
+            fault "netz 5" = 0
+            fault "neta 5" = 0
             fault "line 1" = 0
             fault "Net 5" = 0
             fault "5" = 0
@@ -92,6 +94,9 @@ public final class ToldTest {
             fault "net 5 6" = 6
             fault "net net" = 4
             fault "net ;" = 4
+            fault "net source 1 2 3" = 4
+            fault "source net 5" = 7
+            fault "bus relay 1 1" = 4
             fault "source 1 2 3" = NONE
             fault "source 1 2" = 10
             fault "source 1 2;" = 10
