@@ -10,6 +10,7 @@ public final class FaultDesk {
     private static final int PHASES = 3, SORTS = 4, KINDS = 3, BUSES = 6, STORES = 3, KEEPS = 2;
     private static final int MOST_OHMS = 9, FIRST_VOLTS = 50, MOST_VOLTS = 99, MOST_LIMIT = 999;
     private static final int MOST_WHOLE = 9999, MOST_LETTER = 255, MOST_SHARE = 100;
+    private static final int FINE = 0;
 
     // How often parts two and three are turned ahead of being added, for each of three results.
     private static final int[] SPLIT_TURNS = {0, 0, 1, 2, 2, 1};
@@ -133,14 +134,9 @@ public final class FaultDesk {
     }
 
     public int load(int sort, int bus, int f) {
-        if (isNoBus(bus)) {
-            return UNKNOWN;
-        }
-        if (isNoSort(sort) || isNoOhms(f)) {
-            return OUTSIDE;
-        }
-        if (!flow.takeFault(grid, sort, bus, f)) {
-            return NOT;
+        int refusal = askFault(sort, bus, f, false);
+        if (refusal != FINE) {
+            return refusal;
         }
         notes.add(phases);
         for (int i = 0; i < PHASES; i++) {
@@ -214,38 +210,29 @@ public final class FaultDesk {
     // ---- faults
 
     public long current(int sort, int bus, int f, int phase, int what, int part) {
-        if (isNoBus(bus) || isNoPhase(phase)) {
+        if (isNoPhase(phase)) {
             return UNKNOWN;
         }
-        if (isNoSort(sort) || isNoOhms(f) || isOutside(what, 0, 2) || isOutside(part, 0, 1)) {
-            return OUTSIDE;
-        }
-        return flow.takeFault(grid, sort, bus, f) ? flow.tell(phase, what, part) : NOT;
+        int refusal = askFault(sort, bus, f, isOutside(what, 0, 2) || isOutside(part, 0, 1));
+        return refusal == FINE ? flow.tell(phase, what, part) : refusal;
     }
 
     public long voltage(int sort, int bus, int f, int at, int phase, int what, int part) {
-        if (isNoBus(bus) || isNoBus(at) || isNoPhase(phase)) {
+        if (isNoBus(at) || isNoPhase(phase)) {
             return UNKNOWN;
         }
-        if (isNoSort(sort) || isNoOhms(f) || isOutside(what, 0, 2) || isOutside(part, 0, 1)) {
-            return OUTSIDE;
-        }
-        if (!flow.takeFault(grid, sort, bus, f)) {
-            return NOT;
+        int refusal = askFault(sort, bus, f, isOutside(what, 0, 2) || isOutside(part, 0, 1));
+        if (refusal != FINE) {
+            return refusal;
         }
         fall.becomeVoltage(grid, flow, grid.meetingOf(at, bus));
         return fall.tell(phase, what, part);
     }
 
     public int sag(int sort, int bus, int f, int p) {
-        if (isNoBus(bus)) {
-            return UNKNOWN;
-        }
-        if (isNoSort(sort) || isNoOhms(f) || isOutside(p, 0, MOST_SHARE)) {
-            return OUTSIDE;
-        }
-        if (!flow.takeFault(grid, sort, bus, f)) {
-            return NOT;
+        int refusal = askFault(sort, bus, f, isOutside(p, 0, MOST_SHARE));
+        if (refusal != FINE) {
+            return refusal;
         }
         int bits = 0;
         for (int at = 0; at < grid.buses; at++) {
@@ -258,14 +245,9 @@ public final class FaultDesk {
     }
 
     public int trips(int sort, int bus, int f) {
-        if (isNoBus(bus)) {
-            return UNKNOWN;
-        }
-        if (isNoSort(sort) || isNoOhms(f)) {
-            return OUTSIDE;
-        }
-        if (!flow.takeFault(grid, sort, bus, f)) {
-            return NOT;
+        int refusal = askFault(sort, bus, f, false);
+        if (refusal != FINE) {
+            return refusal;
         }
         int bits = 0;
         for (int step = 0, at = bus; step < BUSES && at > 0; step++, at = grid.hangsAt[at]) {
@@ -405,6 +387,17 @@ public final class FaultDesk {
 
     private static int asBit(boolean fact) {
         return fact ? 1 : 0;
+    }
+
+    /** The flow becomes a fault's current, or it is told why not; a call's own bounds come ahead of NOT. */
+    private int askFault(int sort, int bus, int f, boolean isElseOutside) {
+        if (isNoBus(bus)) {
+            return UNKNOWN;
+        }
+        if (isNoSort(sort) || isNoOhms(f) || isElseOutside) {
+            return OUTSIDE;
+        }
+        return flow.takeFault(grid, sort, bus, f) ? FINE : NOT;
     }
 
     private int takeResult() {

@@ -16,6 +16,7 @@ public final class PhasesTest {
         overAtTheBounds();
         overOnTheWay();
         overInOnePart();
+        overByTurning();
         CHECK.end();
     }
 
@@ -422,6 +423,30 @@ public final class PhasesTest {
             count(3) = 8
             told(0, 0) = 136/95
             told(2, 1) = 5639/709
+            """);
+    }
+
+    /** What is over by a turn alone, though every sum would stay within the bounds. */
+    private static void overByTurning() {
+        Script.run(CHECK, """
+            phase(0, 1, 997, 0, 1) = 1
+            phase(1, 1, 991, 1, 977) = 1
+            phase(2, 1, 983, 0, 1) = 1
+            join() = 1
+            phase(1, 0, 1, 0, 1) = 1
+            phase(2, 0, 1, 0, 1) = 1
+            fold(0, 0) = 2942231/971230541
+            fold(0, 1) = 1/977
+            join() = 1
+            undo() = 6
+            turn() = 1
+            join() = OVER
+            fold(0, 0) = 2942231/971230541
+            fold(1, 0) = 2942231/971230541
+            turn() = 1
+            join() = OVER
+            fold(1, 0) = OVER/OVER
+            fold(1, 1) = OVER/OVER
             """);
     }
 }
