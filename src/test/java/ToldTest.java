@@ -177,6 +177,7 @@ public final class ToldTest {
             fault "bus 0 1 1 1;bus 0 1 1 1;bus 0 1 1 1;bus 0 1 1 1;bus 0 1 1 1;bus 0 1 1 1" = 60
             fault "bus 0 1 1 1;bus 0 1 1 1;bus 0 1 1 1;bus 0 1 1 1;bus 0 1 1 1;bus" = 60
             fault "bus 0 1 1 1;bus 0 1 1 1;bus 0 1 1 1;bus 0 1 1 1;bus 0 1 1 1;net 5;bus 0 1 1 1" = NONE
+            new
             done "bus 0 1 1 1;bus 0 1 1 1;bus 0 1 1 1"
             fault "bus 3 1 1 1" = NONE
             fault "bus 4 1 1 1" = 4
