@@ -210,6 +210,14 @@ final class FaultEdges {
             sag(0, 1, 4, 60) = 0
             sag(0, 1, 4, 61) = 30
             """);
+        // The share of bus 0 is 62.9998.
+        terms("is less than V V p p by 10000.", """
+            done "net 5;source 2 5 1;bus 0 6 9 0"
+            sag(2, 1, 1, 1) = 0
+            sag(2, 1, 1, 2) = 2
+            sag(2, 1, 1, 62) = 2
+            sag(2, 1, 1, 63) = 3
+            """);
         terms("SAG by p (0 .. 100)", TREE + """
             sag(3, 4, 0, 0) = 0
             sag(3, 4, 0, 1) = 16
@@ -294,11 +302,18 @@ final class FaultEdges {
             worst(1, 0) = 2
             worst(1, 1) = 0
             worst(2, 0) = 4
+            worst(2, 1) = 3
             worst(3, 0) = 2
             worst(3, 1) = 0
             done "net 9;source 0 0 0;bus 0 5 5 5;bus 0 4 4 4;bus 0 4 4 4"
             worst(0, 0) = 2
             worst(3, 0) = 2
+            done "net 9;source 0 0 0;bus 0 0 0 2;bus 0 0 1 0;bus 0 1 1 0"
+            worst(2, 1) = 2
+            done "net 9;source 0 0 0;bus 0 1 0 1;bus 0 0 0 1"
+            worst(2, 1) = 2
+            done "net 9;source 0 0 0;bus 0 0 1 0;bus 0 0 0 2"
+            worst(2, 1) = 1
             """);
         sentences.hold("Promise 22", "WORST; NONE. OUTSIDE.", """
             worst(0, 0) = 0
@@ -356,7 +371,14 @@ final class FaultEdges {
         sentences.hold("Promise 23", "how many (what 0), the first (1: 10000 times the SORT, 100 times the BUS, and f; NONE): of the least such number.", """
             match(0) = 0
             match(1) = NONE
+            load(0, 0, 0) = 1
+            match(0) = 1
+            match(1) = 0
+            load(0, 0, 9) = 1
+            match(1) = 9
             done "net 60;source 0 1 0;bus 0 0 1 0"
+            load(0, 1, 9) = 1
+            match(1) = 109
             load(3, 0, 0) = 1
             match(0) = 1
             match(1) = 30000

@@ -51,7 +51,11 @@ public final class RandomRunsTest {
         }
     }
 
+    // What a desk answers behind its last call is free, so a text may be broken off.
     private void call(String name, int... n) {
+        if (calls == CALLS) {
+            return;
+        }
         calls++;
         check.due("run " + run + ", call " + calls + ": " + name + Arrays.toString(n), Calls.answer(desk, name, n), model.answer(name, n));
     }

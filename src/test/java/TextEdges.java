@@ -228,10 +228,22 @@ final class TextEdges {
             fault "net{5" = 3
             fault "Net 5" = 0
             fault "neT 5" = 0
+            fault "netA5" = 3
+            fault "netZ5" = 3
             fault "net 5A" = 5
             fault "net 5Z" = 5
             fault "abcdefghijklmnopqrstuvwxyz" = 0
             fault "net 5 abcdefghijklmnopqrstuvwxyz" = 6
+            """);
+        terms("small letters a .. z", """
+            text "net"
+            write(181) = 4
+            write(53) = 5
+            fault() = 3
+            text "net"
+            write(233) = 4
+            write(53) = 5
+            fault() = 3
             """);
         terms("blanks between", "fault \"" + blanks(9) + "net" + blanks(9) + "5" + blanks(9) + ";" + blanks(9) + "net 6" + blanks(9) + "\" = NONE\n" + """
             fault "net 5;net 6" = NONE
@@ -281,12 +293,21 @@ final class TextEdges {
             fault "ne 5" = 0
             fault "nets 5" = 0
             fault "line 1" = 0
+            fault "set 5" = 0
+            fault "not 5" = 0
+            fault "new 5" = 0
+            fault "mource 1 1 1" = 0
+            fault "sourde 1 1 1" = 0
+            fault "gus 0 1 1 1" = 0
+            fault "but 0 1 1 1" = 0
             fault "sourc 1 1 1" = 0
             fault "sources 1 1 1" = 0
             fault "bu 0 1 1 1" = 0
             fault "buses 0 1 1 1" = 0
             fault "rela 1 1" = 0
             fault "relays 1 1" = 0
+            fault "bus 0 1 1 1;delay 1 1" = 12
+            fault "bus 0 1 1 1;relax 1 1" = 12
             fault "5" = 0
             fault "net V" = 4
             fault "net 5." = 5
