@@ -1,10 +1,11 @@
 import java.io.IOException;
 
-/** Each sentence of the document that names an edge, with a run of its own. */
-public final class EdgesTest {
+/** Each sentence of the document, with a run of its own; no word of it may be left without one. */
+public final class DocumentTest {
     public static void main(String[] args) throws IOException {
-        Check check = new Check("EdgesTest");
-        Sentences sentences = new Sentences(check);
+        Check check = new Check("DocumentTest");
+        Sentences sentences = new Sentences(check, new Document());
+        PlainSentences.hold(sentences);
         TextEdges.hold(sentences);
         PhaseEdges.hold(sentences);
         FaultEdges.hold(sentences);
