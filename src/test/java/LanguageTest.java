@@ -1,18 +1,12 @@
-import com.sun.source.tree.AssertTree;
 import com.sun.source.tree.BinaryTree;
 import com.sun.source.tree.ClassTree;
 import com.sun.source.tree.CompilationUnitTree;
 import com.sun.source.tree.ForLoopTree;
-import com.sun.source.tree.LambdaExpressionTree;
-import com.sun.source.tree.MemberReferenceTree;
 import com.sun.source.tree.MethodInvocationTree;
 import com.sun.source.tree.MethodTree;
 import com.sun.source.tree.NewArrayTree;
 import com.sun.source.tree.NewClassTree;
-import com.sun.source.tree.SynchronizedTree;
-import com.sun.source.tree.ThrowTree;
 import com.sun.source.tree.Tree;
-import com.sun.source.tree.TryTree;
 import com.sun.source.tree.VariableTree;
 import com.sun.source.tree.WhileLoopTree;
 import com.sun.source.util.JavacTask;
@@ -45,6 +39,9 @@ public final class LanguageTest extends TreePathScanner<Void, Void> {
     // Of the library that rule 4 lists only what the class uses; a use of more is to be looked up there.
     private static final Set<String> LIBRARY = Set.of("java.lang.String.length", "java.lang.String.charAt", "java.lang.System.arraycopy",
         "java.lang.Math.max", "java.lang.Math.min", "java.lang.Object.<init>");
+    // Rules 2 and 6.
+    private static final Set<Tree.Kind> BARRED = Set.of(Tree.Kind.LAMBDA_EXPRESSION, Tree.Kind.MEMBER_REFERENCE, Tree.Kind.THROW, Tree.Kind.TRY,
+        Tree.Kind.SYNCHRONIZED, Tree.Kind.ASSERT);
     private static final Set<TypeKind> CONSTANT_ARRAYS = Set.of(TypeKind.INT, TypeKind.LONG, TypeKind.CHAR, TypeKind.BYTE);
 
     private final Trees trees;
@@ -113,6 +110,14 @@ public final class LanguageTest extends TreePathScanner<Void, Void> {
 
     private static boolean isText(TypeMirror type) {
         return type != null && type.toString().equals("java.lang.String");
+    }
+
+    @Override
+    public Void scan(Tree tree, Void nothing) {
+        if (tree != null && BARRED.contains(tree.getKind())) {
+            CHECK.holds("2, 6: none of these in " + method + ": " + tree, false);
+        }
+        return super.scan(tree, nothing);
     }
 
     // ---- classes, methods, fields
@@ -219,43 +224,5 @@ public final class LanguageTest extends TreePathScanner<Void, Void> {
     public Void visitWhileLoop(WhileLoopTree tree, Void nothing) {
         rule("9: a loop has an end", tree.getCondition().toString().contains(" < "));
         return super.visitWhileLoop(tree, nothing);
-    }
-
-    // ---- what is barred
-
-    @Override
-    public Void visitLambdaExpression(LambdaExpressionTree tree, Void nothing) {
-        rule("2: no lambda", false);
-        return null;
-    }
-
-    @Override
-    public Void visitMemberReference(MemberReferenceTree tree, Void nothing) {
-        rule("2: no method reference", false);
-        return null;
-    }
-
-    @Override
-    public Void visitThrow(ThrowTree tree, Void nothing) {
-        rule("6: no throw", false);
-        return null;
-    }
-
-    @Override
-    public Void visitTry(TryTree tree, Void nothing) {
-        rule("6: no try", false);
-        return null;
-    }
-
-    @Override
-    public Void visitSynchronized(SynchronizedTree tree, Void nothing) {
-        rule("6: no synchronized", false);
-        return null;
-    }
-
-    @Override
-    public Void visitAssert(AssertTree tree, Void nothing) {
-        rule("6: no assert", false);
-        return null;
     }
 }
